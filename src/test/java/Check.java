@@ -1,8 +1,14 @@
+import java.util.List;
+
 /** What the tests share: each prints every answer that is not as due, and ends with 1 if there was one. */
 final class Check {
     interface Call {
         Object go();
     }
+
+    private static final List<String> DOCUMENTED = List.of("IllegalArgumentException",
+            "IllegalStateException", "IndexOutOfBoundsException", "NoSuchElementException",
+            "UnsupportedOperationException", "ArithmeticException");
 
     private static int asked = 0;
     private static int wrong = 0;
@@ -36,8 +42,15 @@ final class Check {
         try {
             return String.valueOf(call.go());
         } catch (RuntimeException e) {
+            if (isOfTheMachine(e)) {
+                tell("the Java machine itself threw " + e);
+            }
             return "throws." + e.getClass().getSimpleName();
         }
+    }
+
+    private static boolean isOfTheMachine(RuntimeException e) {
+        return !DOCUMENTED.contains(e.getClass().getSimpleName()) || "/ by zero".equals(e.getMessage());
     }
 
     static void refused(String what, String exception, Call call) {

@@ -29,6 +29,7 @@ public final class GradesTest {
         nextWithoutGrade();
         nextInTheRing();
         nextAndTheDirection();
+        nextByOne();
         mass();
         Check.end("GradesTest");
     }
@@ -210,6 +211,22 @@ public final class GradesTest {
         first.order(2, 100, 1);
         first.change(0);
         Check.same("next in the first change, the direction is up", first.next(), 1);
+    }
+
+    private static void nextByOne() {
+        PaperMachine mill = mill(100, 101, 99);
+        for (int grade = 0; grade < 3; grade++) {
+            mill.order(grade, 100, 1);
+        }
+        goOver(mill, 2);
+        Check.same("next at 99, still up", mill.next(), 0);
+        goOver(mill, 1);
+        Check.same("next at 101, nothing is above", mill.next(), 0);
+        goOver(mill, 0);
+        Check.same("next at 100 after 101", mill.next(), 2);
+        goOver(mill, 2);
+        goOver(mill, 0);
+        Check.same("next at 100 after 99", mill.next(), 1);
     }
 
     private static void mass() {

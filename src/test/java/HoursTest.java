@@ -92,6 +92,7 @@ public final class HoursTest {
         Check.refusedUnchanged(mill, "pass(49) at 398", ARGUMENT, () -> mill.pass(49));
         mill.pass(2);
         Check.same("hours at the end", mill.hours(), 400);
+        sums(mill, "at the end", 6000, 6120, 0, 120);
         Check.same("made(398)", mill.made(398), 'c');
         Check.same("made(399)", mill.made(399), 'n');
         Check.refusedUnchanged(mill, "made(400)", INDEX, () -> mill.made(400));

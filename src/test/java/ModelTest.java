@@ -116,9 +116,11 @@ public final class ModelTest {
 
     private void cuts() {
         int grade = random.nextInt(3) == 0 ? about(0, 5) : random.nextInt(2);
-        both("trim(" + grade + ")", () -> mill.trim(grade), () -> plain.trim(grade));
-        both("trimByTable(" + grade + ")", () -> mill.trimByTable(grade), () -> plain.trim(grade));
         int order = about(0, 9);
-        both("inCut(" + order + ")", () -> mill.inCut(order), () -> plain.inCut(order));
+        switch (random.nextInt(3)) {
+            case 0 -> both("trim(" + grade + ")", () -> mill.trim(grade), () -> plain.trim(grade));
+            case 1 -> both("trimByTable(" + grade + ")", () -> mill.trimByTable(grade), () -> plain.trim(grade));
+            default -> both("inCut(" + order + ")", () -> mill.inCut(order), () -> plain.inCut(order));
+        }
     }
 }

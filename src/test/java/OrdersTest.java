@@ -17,7 +17,10 @@ public final class OrdersTest {
 
     /** Checks the cut of grade 0: its trim by both ways, and the rolls of each order from 0. */
     private static void cutIs(PaperMachine mill, String name, int trim, int... rolls) {
+        // Grade 1 is looked at between, so that neither way lives on what the other one left.
+        mill.trimByTable(1);
         Check.same(name + ": trim", mill.trim(0), trim);
+        mill.trim(1);
         Check.same(name + ": trimByTable", mill.trimByTable(0), trim);
         for (int i = 0; i < rolls.length; i++) {
             Check.same(name + ": inCut(" + i + ")", mill.inCut(i), rolls[i]);
@@ -84,6 +87,11 @@ public final class OrdersTest {
         Check.refusedUnchanged(mill, "an eleventh, out of range", ARGUMENT, () -> mill.order(0, 100, 51));
         Check.refusedUnchanged(mill, "an eleventh of no grade", INDEX, () -> mill.order(2, 100, 1));
         Check.same("lacks(9)", mill.lacks(9), 2);
+        Check.same("setWidth beside 10 orders", mill.setWidth(200), 250);
+        Check.same("leastHours of 10 orders", mill.leastHours(1), 5);
+        Check.same("leastHours of 10 orders, one cancelled", mill.leastHours(0), 4);
+        Check.same("rolls of 10 orders", mill.pass(4), 8);
+        Check.same("cut(8)", mill.cut(8), 2);
     }
 
     private static void cancel() {
