@@ -10,10 +10,18 @@ final class Check {
             "IllegalStateException", "IndexOutOfBoundsException", "NoSuchElementException",
             "UnsupportedOperationException", "ArithmeticException");
 
+    private static String sentence = "";
+    private static int sentences = 0;
     private static int asked = 0;
     private static int wrong = 0;
 
     private Check() {
+    }
+
+    /** Names the sentence of the document that the answers from here on rest on. */
+    static void sentence(String where, String words) {
+        sentence = where + ": \"" + words + "\": ";
+        sentences++;
     }
 
     static void same(String what, long got, long due) {
@@ -57,13 +65,6 @@ final class Check {
         same(what, told(call), "throws." + exception);
     }
 
-    /** The call is refused with this exception, and all looks at the mill answer as before. */
-    static void refusedUnchanged(PaperMachine mill, String what, String exception, Call call) {
-        String before = look(mill);
-        refused(what, exception, call);
-        same("the mill after " + what, look(mill), before);
-    }
-
     /** All that can be seen of a mill, as one text. */
     static String look(PaperMachine mill) {
         StringBuilder out = new StringBuilder();
@@ -105,12 +106,13 @@ final class Check {
     private static void tell(String line) {
         wrong++;
         if (wrong <= 50) {
-            System.out.println(line);
+            System.out.println(sentence + line);
         }
     }
 
     static void end(String test) {
-        System.out.println(test + ": " + asked + " answers, " + wrong + " not as due");
+        String read = sentences == 0 ? "" : sentences + " sentences, ";
+        System.out.println(test + ": " + read + asked + " answers, " + wrong + " not as due");
         if (wrong != 0 || asked == 0) {
             System.exit(1);
         }

@@ -1,17 +1,8 @@
-/** Promises 17 to 29: hours, broke, steam and figures. */
+/** Promises 17 to 29 in ordinary use: hours, broke, steam and figures. */
 public final class HoursTest {
     private static final String INDEX = "IndexOutOfBoundsException";
     private static final String ARGUMENT = "IllegalArgumentException";
-    private static final String STATE = "IllegalStateException";
     private static final String ARITHMETIC = "ArithmeticException";
-
-    private static PaperMachine mill(int... weights) {
-        PaperMachine mill = new PaperMachine();
-        for (int weight : weights) {
-            mill.addGrade(weight);
-        }
-        return mill;
-    }
 
     private static void sums(PaperMachine mill, String name, int broke, long fresh, long paper, long lost) {
         Check.same(name + ": broke", mill.broke(), broke);
@@ -22,10 +13,7 @@ public final class HoursTest {
     }
 
     public static void main(String[] args) {
-        setShare();
-        setContract();
-        passRefused();
-        passToTheEnd();
+        setShareAndContract();
         hoursThatDoNothing();
         hoursOfAChange();
         hoursOfPaper();
@@ -39,69 +27,22 @@ public final class HoursTest {
         Check.end("HoursTest");
     }
 
-    private static void setShare() {
-        PaperMachine mill = mill(100);
-        Check.refusedUnchanged(mill, "setShare(-1)", ARGUMENT, () -> mill.setShare(-1));
-        Check.refusedUnchanged(mill, "setShare(51)", ARGUMENT, () -> mill.setShare(51));
-        Check.refusedUnchanged(mill, "setShare(greatest int)", ARGUMENT, () -> mill.setShare(Integer.MAX_VALUE));
-        Check.same("setShare(0)", mill.setShare(0), 20);
-        Check.same("setShare(50)", mill.setShare(50), 0);
-        Check.same("setShare(7)", mill.setShare(7), 50);
-        Check.refused("setShare(99)", ARGUMENT, () -> mill.setShare(99));
-        Check.same("setShare(8)", mill.setShare(8), 7);
-    }
-
-    private static void setContract() {
-        PaperMachine mill = mill(100);
-        int[][] wrong = {{-1, 1, 1}, {10000, 1, 1}, {1, -1, 1}, {1, 100, 1}, {1, 1, -1}, {1, 1, 100}};
-        for (int[] w : wrong) {
-            String name = "setContract(" + w[0] + ", " + w[1] + ", " + w[2] + ")";
-            Check.refusedUnchanged(mill, name, ARGUMENT, () -> mill.setContract(w[0], w[1], w[2]));
-        }
+    private static void setShareAndContract() {
+        PaperMachine mill = Mills.of(100);
+        Check.same("setShare(30)", mill.setShare(30), 20);
+        Check.refused("setShare(60)", ARGUMENT, () -> mill.setShare(60));
+        Check.same("setShare(10)", mill.setShare(10), 30);
+        Check.same("setContract(1500, 2, 4)", mill.setContract(1500, 2, 4), 2000);
+        Check.refused("setContract(1500, 2, 400)", ARGUMENT, () -> mill.setContract(1500, 2, 400));
+        Check.same("setContract(2500, 1, 6)", mill.setContract(2500, 1, 6), 1500);
         mill.change(0);
+        Check.refused("pass(60)", ARGUMENT, () -> mill.pass(60));
         mill.pass(1);
-        Check.same("the cost by the first contract", mill.steamCost(), 2000 * 3 + 1000 * 5);
-        Check.same("setContract(0, 99, 99)", mill.setContract(0, 99, 99), 2000);
-        Check.same("setContract(9999, 0, 0)", mill.setContract(9999, 0, 0), 0);
-        Check.same("setContract(5, 1, 1)", mill.setContract(5, 1, 1), 9999);
-    }
-
-    private static void passRefused() {
-        PaperMachine mill = mill(100);
-        mill.change(0);
-        Check.refusedUnchanged(mill, "pass(0)", ARGUMENT, () -> mill.pass(0));
-        Check.refusedUnchanged(mill, "pass(-1)", ARGUMENT, () -> mill.pass(-1));
-        Check.refusedUnchanged(mill, "pass(49)", ARGUMENT, () -> mill.pass(49));
-        Check.refusedUnchanged(mill, "pass(greatest int)", ARGUMENT, () -> mill.pass(Integer.MAX_VALUE));
-        Check.refusedUnchanged(mill, "pass(least int)", ARGUMENT, () -> mill.pass(Integer.MIN_VALUE));
-        mill.pass(1);
-        Check.same("hours after pass(1)", mill.hours(), 1);
-        mill.pass(48);
-        Check.same("hours after pass(48)", mill.hours(), 49);
-    }
-
-    private static void passToTheEnd() {
-        PaperMachine mill = mill(100);
-        for (int i = 0; i < 8; i++) {
-            mill.pass(48);
-        }
-        mill.pass(14);
-        mill.change(0);
-        Check.same("hours before the end", mill.hours(), 398);
-        Check.refusedUnchanged(mill, "pass(3) at 398", STATE, () -> mill.pass(3));
-        Check.refusedUnchanged(mill, "pass(49) at 398", ARGUMENT, () -> mill.pass(49));
-        mill.pass(2);
-        Check.same("hours at the end", mill.hours(), 400);
-        sums(mill, "at the end", 6000, 6120, 0, 120);
-        Check.same("made(398)", mill.made(398), 'c');
-        Check.same("made(399)", mill.made(399), 'n');
-        Check.refusedUnchanged(mill, "made(400)", INDEX, () -> mill.made(400));
-        Check.refusedUnchanged(mill, "pass(1) at 400", STATE, () -> mill.pass(1));
-        Check.refusedUnchanged(mill, "pass(0) at 400", ARGUMENT, () -> mill.pass(0));
+        Check.same("steam of 3000 at a limit of 2500", mill.steamCost(), 2500 + 500 * 6);
     }
 
     private static void hoursThatDoNothing() {
-        PaperMachine mill = mill(100, 150);
+        PaperMachine mill = Mills.of(100, 150);
         mill.order(0, 100, 5);
         Check.same("pass without a grade", mill.pass(2), 0);
         sums(mill, "without a grade", 0, 0, 0, 0);
@@ -117,7 +58,7 @@ public final class HoursTest {
     }
 
     private static void hoursOfAChange() {
-        PaperMachine mill = mill(80, 160);
+        PaperMachine mill = Mills.of(80, 160);
         mill.order(0, 300, 2);
         mill.order(1, 300, 2);
         mill.change(0);
@@ -133,7 +74,7 @@ public final class HoursTest {
     }
 
     private static void hoursOfPaper() {
-        PaperMachine mill = mill(83);
+        PaperMachine mill = Mills.of(83);
         mill.setWidth(607);
         mill.order(0, 150, 9);
         mill.change(0);
@@ -150,7 +91,7 @@ public final class HoursTest {
     }
 
     private static void massIsRoundedDown() {
-        PaperMachine mill = mill(43);
+        PaperMachine mill = Mills.of(43);
         mill.setWidth(203);
         mill.change(0);
         mill.pass(1);
@@ -160,7 +101,7 @@ public final class HoursTest {
     }
 
     private static void brokeIsFedByTheShare() {
-        PaperMachine mill = mill(100);
+        PaperMachine mill = Mills.of(100);
         mill.order(0, 200, 50);
         mill.change(0);
         mill.setShare(0);
@@ -182,7 +123,7 @@ public final class HoursTest {
     }
 
     private static void brokeIsFedWhole() {
-        PaperMachine mill = mill(40, 200);
+        PaperMachine mill = Mills.of(40, 200);
         mill.setWidth(200);
         mill.order(1, 150, 9);
         mill.change(0);
@@ -198,7 +139,7 @@ public final class HoursTest {
     }
 
     private static void steam() {
-        PaperMachine mill = mill(100);
+        PaperMachine mill = Mills.of(100);
         mill.setContract(3000, 7, 11);
         mill.change(0);
         mill.pass(1);
@@ -219,7 +160,7 @@ public final class HoursTest {
     }
 
     private static void steamByNewContracts() {
-        PaperMachine mill = mill(200);
+        PaperMachine mill = Mills.of(200);
         mill.setWidth(799);
         mill.change(0);
         mill.pass(1);
@@ -237,7 +178,7 @@ public final class HoursTest {
     }
 
     private static void made() {
-        PaperMachine mill = mill(80, 130);
+        PaperMachine mill = Mills.of(80, 130);
         mill.order(1, 200, 4);
         mill.pass(1);
         mill.change(0);
@@ -248,20 +189,20 @@ public final class HoursTest {
         for (int i = 0; i < due.length(); i++) {
             Check.same("made(" + i + ")", mill.made(i), due.charAt(i));
         }
-        Check.refusedUnchanged(mill, "made(8)", INDEX, () -> mill.made(8));
-        Check.refusedUnchanged(mill, "made(-1)", INDEX, () -> mill.made(-1));
-        Check.refusedUnchanged(mill, "made(greatest int)", INDEX, () -> mill.made(Integer.MAX_VALUE));
+        Check.refused("made(8)", INDEX, () -> mill.made(8));
+        Check.refused("made(-1)", INDEX, () -> mill.made(-1));
+        Check.refused("made(greatest int)", INDEX, () -> mill.made(Integer.MAX_VALUE));
     }
 
     private static void figures() {
-        PaperMachine mill = mill(100);
+        PaperMachine mill = Mills.of(100);
         mill.pass(3);
-        Check.refusedUnchanged(mill, "paperShare of nothing", ARITHMETIC, mill::paperShare);
-        Check.refusedUnchanged(mill, "meanTrim of nothing", ARITHMETIC, mill::meanTrim);
+        Check.refused("paperShare of nothing", ARITHMETIC, mill::paperShare);
+        Check.refused("meanTrim of nothing", ARITHMETIC, mill::meanTrim);
         mill.change(0);
         mill.pass(1);
         Check.same("paperShare of a change", mill.paperShare(), 0.0f);
-        Check.refusedUnchanged(mill, "meanTrim of a change", ARITHMETIC, mill::meanTrim);
+        Check.refused("meanTrim of a change", ARITHMETIC, mill::meanTrim);
         mill.order(0, 200, 4);
         mill.pass(1);
         Check.same("paperShare of one hour of two", mill.paperShare(), 0.5f);

@@ -2,13 +2,18 @@ import java.util.Random;
 
 /** All promises together: long runs of calls, beside PlainMill, with equal answers and equal exceptions. */
 public final class ModelTest {
-    private static final int RUNS = 300;
+    private static final int RUNS = 1200;
+    /** As many calls as the document promises answers for. */
     private static final int CALLS = 512;
+    private static final int CALLS_OF_THE_LAST_LOOK = 80;
+    private static final int KINDS_OF_LOOKS = 18;
+    private static final int FIRST_LOOK_AT_A_NUMBER = 13;
 
     private PaperMachine mill;
     private PlainMill plain;
     private Random random;
-    private String call;
+    private int calls;
+    private String run;
 
     public static void main(String[] args) {
         for (int run = 0; run < RUNS; run++) {
@@ -21,18 +26,23 @@ public final class ModelTest {
         mill = new PaperMachine();
         plain = new PlainMill();
         random = new Random(number);
-        int stage = number % 3;
-        for (int i = 0; i < CALLS; i++) {
-            call = "run " + number + ", call " + i + ": ";
+        calls = 0;
+        run = "run " + number + ", call ";
+        while (calls < CALLS - CALLS_OF_THE_LAST_LOOK) {
             int kind = random.nextInt(100);
-            if (kind < 40) {
-                write(stage, i);
+            if (kind < 50) {
+                write(number % 3);
             } else if (kind < 80) {
-                look();
+                lookAt(random.nextInt(KINDS_OF_LOOKS), about(0, 9));
             } else {
                 cuts();
             }
         }
+        lookAtAll();
+        while (calls < CALLS) {
+            cuts();
+        }
+        Check.same("calls of a run", calls, CALLS);
     }
 
     private int from(int least, int most) {
@@ -46,12 +56,13 @@ public final class ModelTest {
     }
 
     private void both(String name, Check.Call ours, Check.Call theirs) {
-        Check.same(call + name, Check.told(ours), Check.told(theirs));
+        calls++;
+        Check.same(run + calls + ": " + name, Check.told(ours), Check.told(theirs));
     }
 
-    private void write(int stage, int at) {
+    private void write(int stage) {
         int a = about(0, 5);
-        switch (random.nextInt(at < 30 ? 5 : 8)) {
+        switch (random.nextInt(calls < 30 ? 5 : 8)) {
             case 0 -> {
                 int weight = random.nextInt(3) == 0 ? 40 * from(1, 5) : about(40, 200);
                 both("addGrade(" + weight + ")", () -> mill.addGrade(weight), () -> plain.addGrade(weight));
@@ -90,27 +101,38 @@ public final class ModelTest {
                 () -> mill.order(grade, width, rolls), () -> plain.order(grade, width, rolls));
     }
 
-    private void look() {
-        both("grade()", mill::grade, plain::grade);
-        both("changing()", mill::changing, plain::changing);
-        both("next()", mill::next, plain::next);
-        both("hours()", mill::hours, plain::hours);
-        both("broke()", mill::broke, plain::broke);
-        both("brokeByHours()", mill::brokeByHours, plain::broke);
-        both("fresh()", mill::fresh, plain::fresh);
-        both("paper()", mill::paper, plain::paper);
-        both("lost()", mill::lost, plain::lost);
-        both("steamCost()", mill::steamCost, plain::steamCost);
-        both("paperShare()", mill::paperShare, plain::paperShare);
-        both("meanTrim()", mill::meanTrim, plain::meanTrim);
-        int hour = about(0, Math.max(0, plain.hours() - 1));
-        both("made(" + hour + ")", () -> mill.made(hour), () -> plain.made(hour));
-        for (int i = -1; i <= 10; i++) {
-            int n = i;
-            both("mass(" + n + ")", () -> mill.mass(n), () -> plain.mass(n));
-            both("leastHours(" + n + ")", () -> mill.leastHours(n), () -> plain.leastHours(n));
-            both("cut(" + n + ")", () -> mill.cut(n), () -> plain.cut(n));
-            both("lacks(" + n + ")", () -> mill.lacks(n), () -> plain.lacks(n));
+    private void lookAtAll() {
+        for (int kind = 0; kind < KINDS_OF_LOOKS; kind++) {
+            boolean ofANumber = kind >= FIRST_LOOK_AT_A_NUMBER;
+            for (int n = ofANumber ? -1 : 0; n <= (ofANumber ? 10 : 0); n++) {
+                lookAt(kind, n);
+            }
+        }
+    }
+
+    private void lookAt(int kind, int n) {
+        switch (kind) {
+            case 0 -> both("grade()", mill::grade, plain::grade);
+            case 1 -> both("changing()", mill::changing, plain::changing);
+            case 2 -> both("next()", mill::next, plain::next);
+            case 3 -> both("hours()", mill::hours, plain::hours);
+            case 4 -> both("broke()", mill::broke, plain::broke);
+            case 5 -> both("brokeByHours()", mill::brokeByHours, plain::broke);
+            case 6 -> both("fresh()", mill::fresh, plain::fresh);
+            case 7 -> both("paper()", mill::paper, plain::paper);
+            case 8 -> both("lost()", mill::lost, plain::lost);
+            case 9 -> both("steamCost()", mill::steamCost, plain::steamCost);
+            case 10 -> both("paperShare()", mill::paperShare, plain::paperShare);
+            case 11 -> both("meanTrim()", mill::meanTrim, plain::meanTrim);
+            case 12 -> {
+                int hour = about(0, Math.max(0, plain.hours() - 1));
+                both("made(" + hour + ")", () -> mill.made(hour), () -> plain.made(hour));
+            }
+            case FIRST_LOOK_AT_A_NUMBER -> both("mass(" + n + ")", () -> mill.mass(n), () -> plain.mass(n));
+            case 14 -> both("leastHours(" + n + ")", () -> mill.leastHours(n), () -> plain.leastHours(n));
+            case 15 -> both("cut(" + n + ")", () -> mill.cut(n), () -> plain.cut(n));
+            case 16 -> both("lacks(" + n + ")", () -> mill.lacks(n), () -> plain.lacks(n));
+            default -> both("inCut(" + n + ")", () -> mill.inCut(n), () -> plain.inCut(n));
         }
     }
 

